@@ -581,6 +581,9 @@ public final class PromisesTest {
             }
         }
         is("total(0, 3)", x.total(0, 3), 5);
+        TextMarks fresh = new TextMarks();
+        fresh.block(2, 0, 8);
+        is("of an empty text, told by the only row", fresh.paragraph(2, 0, 2), 8);
         x.delete(0, 0);
         is("the first one's kind stays", x.paragraph(0, 0, 2), 1);
         is("its signs", x.paragraph(0, 0, 1), 2);
@@ -686,6 +689,11 @@ public final class PromisesTest {
         is("another kind of the first", x.alike(0, 1), false);
         x.block(1, 0, 0);
         is("kind 0 told", x.alike(0, 1), true);
+
+        TextMarks z = written("\n");
+        z.meet(1, 0);
+        z.block(1, 1, 4);
+        is("another kind behind a sign 10 at place 0", z.alike(0, 1), false);
 
         TextMarks y = written("aa");
         y.comment(0, 0, 2);
