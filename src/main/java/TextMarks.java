@@ -49,83 +49,60 @@ public final class TextMarks {
         rows = new Rows();
         nodes = new Node[NODES];
         for (int i = 0; i < NODES; i++) {
-            nodes[i] = new Node(i);
+            nodes[i] = new Node();
         }
         view = new View();
         otherView = new View();
     }
 
     public int insert(int node, int at, int sign) {
-        Node writer = nodeOf(node);
-        if (writer == null || !isSign(sign)) {
+        if (!isSign(sign) || !shows(node) || at < 0 || at > view.size()) {
             return NONE;
         }
-        view.show(rows, writer);
-        if (at < 0 || at > view.size()) {
-            return NONE;
-        }
-        return write(writer, INSERT, sign, 0, view.insertAt(at - 1), 0);
+        return write(node, INSERT, sign, 0, view.insertAt(at - 1), 0);
     }
 
     public int delete(int node, int at) {
-        Node writer = nodeOf(node);
-        if (writer == null) {
+        if (!shows(node) || !view.hasPlace(at)) {
             return NONE;
         }
-        view.show(rows, writer);
-        if (!view.hasPlace(at)) {
-            return NONE;
-        }
-        return write(writer, DELETE, 0, 0, view.insertAt(at), 0);
+        return write(node, DELETE, 0, 0, view.insertAt(at), 0);
     }
 
     public int style(int node, int from, int to, int key, int value) {
-        Node writer = nodeOf(node);
-        if (writer == null || !isKey(key) || value < 0 || value > MOST_VALUE) {
+        if (!isKey(key) || value < 0 || value > MOST_VALUE) {
             return NONE;
         }
-        view.show(rows, writer);
-        if (!view.hasRange(from, to)) {
+        if (!shows(node) || !view.hasRange(from, to)) {
             return NONE;
         }
         int last = grows(key) ? view.insertAt(to) : view.insertAt(to - 1);
-        return write(writer, STYLE, key, value, view.insertAt(from), last);
+        return write(node, STYLE, key, value, view.insertAt(from), last);
     }
 
     public int comment(int node, int from, int to) {
-        Node writer = nodeOf(node);
-        if (writer == null) {
+        if (!shows(node) || !view.hasRange(from, to)) {
             return NONE;
         }
-        view.show(rows, writer);
-        if (!view.hasRange(from, to)) {
-            return NONE;
-        }
-        return write(writer, COMMENT, 0, 0, view.insertAt(from), view.insertAt(to - 1));
+        return write(node, COMMENT, 0, 0, view.insertAt(from), view.insertAt(to - 1));
     }
 
     public int block(int node, int k, int kind) {
-        Node writer = nodeOf(node);
-        if (writer == null || kind < 0 || kind > MOST_KIND) {
+        if (kind < 0 || kind > MOST_KIND || !shows(node)) {
             return NONE;
         }
-        view.show(rows, writer);
         int start = view.paragraphStart(k);
-        if (start == NONE) {
-            return NONE;
-        }
-        return write(writer, BLOCK, kind, 0, view.insertAt(start - 1), 0);
+        return start == NONE ? NONE : write(node, BLOCK, kind, 0, view.insertAt(start - 1), 0);
     }
 
     public int undo(int node, int row) {
-        Node writer = nodeOf(node);
-        if (writer == null || !rows.has(row) || rows.cell(row, NODE) != node) {
+        if (!rows.has(row) || rows.cell(row, NODE) != node) {
             return NONE;
         }
         if (rows.cell(row, SORT) == UNDO || rows.undoOf(row) != 0) {
             return NONE;
         }
-        return write(writer, UNDO, 0, 0, row, 0);
+        return write(node, UNDO, 0, 0, row, 0);
     }
 
     public boolean see(int node, int row) {
@@ -156,39 +133,19 @@ public final class TextMarks {
     }
 
     public int sign(int node, int i) {
-        Node reader = nodeOf(node);
-        if (reader == null) {
-            return NONE;
-        }
-        view.show(rows, reader);
-        return view.hasPlace(i) ? view.signAt(i) : NONE;
+        return shows(node) ? view.signAt(i) : NONE;
     }
 
     public int id(int node, int i) {
-        Node reader = nodeOf(node);
-        if (reader == null) {
-            return NONE;
-        }
-        view.show(rows, reader);
-        return view.hasPlace(i) ? view.insertAt(i) : NONE;
+        return shows(node) && view.hasPlace(i) ? view.insertAt(i) : NONE;
     }
 
     public int unit(int node, int i) {
-        Node reader = nodeOf(node);
-        if (reader == null || i < 0) {
-            return NONE;
-        }
-        view.show(rows, reader);
-        return view.unitAt(i);
+        return shows(node) ? view.unitAt(i) : NONE;
     }
 
     public int styled(int node, int i, int key) {
-        Node reader = nodeOf(node);
-        if (reader == null || !isKey(key)) {
-            return NONE;
-        }
-        view.show(rows, reader);
-        if (!view.hasPlace(i)) {
+        if (!isKey(key) || !shows(node)) {
             return NONE;
         }
         view.paint(rows);
@@ -196,11 +153,9 @@ public final class TextMarks {
     }
 
     public int run(int node, int k, int what) {
-        Node reader = nodeOf(node);
-        if (reader == null || what < 0 || what >= 2 + KEYS) {
+        if (what < 0 || what >= 2 + KEYS || !shows(node)) {
             return NONE;
         }
-        view.show(rows, reader);
         view.paint(rows);
         int start = view.runStart(k);
         if (start == NONE) {
@@ -217,24 +172,17 @@ public final class TextMarks {
     }
 
     public int lies(int node, int comment, int side) {
-        Node reader = nodeOf(node);
-        if (reader == null || side < 0 || side > 1 || rows.cell(comment, SORT) != COMMENT) {
+        if (side < 0 || side > 1 || rows.cell(comment, SORT) != COMMENT) {
             return NONE;
         }
-        view.show(rows, reader);
-        if (!view.isGood(comment)) {
+        if (!shows(node) || !view.isGood(comment)) {
             return NONE;
         }
         return side == 0 ? commentFrom(view, comment) : commentTo(view, comment);
     }
 
     public int paragraph(int node, int k, int what) {
-        Node reader = nodeOf(node);
-        if (reader == null) {
-            return NONE;
-        }
-        view.show(rows, reader);
-        int start = view.paragraphStart(k);
+        int start = shows(node) ? view.paragraphStart(k) : NONE;
         if (start == NONE) {
             return NONE;
         }
@@ -312,9 +260,23 @@ public final class TextMarks {
         return key < GROWING_KEYS;
     }
 
-    private int write(Node writer, int sort, int detail, int value, int first, int second) {
+    /** Whether there is such a node; then the view is its. */
+    private boolean shows(int node) {
+        Node reader = nodeOf(node);
+        if (reader == null) {
+            return false;
+        }
+        view.show(rows, reader);
+        return true;
+    }
+
+    private int write(int node, int sort, int detail, int value, int first, int second) {
+        Node writer = nodeOf(node);
+        if (writer == null) {
+            return NONE;
+        }
         int time = writer.time() + 1;
-        int made = rows.add(writer.number(), time, sort, detail, value, first, second);
+        int made = rows.add(node, time, sort, detail, value, first, second);
         if (made != NONE) {
             writer.learn(made, time);
         }
@@ -474,18 +436,9 @@ public final class TextMarks {
 
     /** One of the people: which rows it knows, and its time. */
     private static final class Node {
-        private final int number;
         private final boolean[] knowing = new boolean[MOST_ROWS + 1];
         private int known;
         private int time;
-
-        Node(int number) {
-            this.number = number;
-        }
-
-        int number() {
-            return number;
-        }
 
         int known() {
             return known;
@@ -605,6 +558,9 @@ public final class TextMarks {
         }
 
         int unitAt(int unit) {
+            if (unit < 0) {
+                return NONE;
+            }
             int left = unit;
             for (int place = 0; place < size; place++) {
                 int width = widthOf(signs[place]);
