@@ -25,6 +25,10 @@ final class Due {
         is(call, got ? 1 : 0, want ? 1 : 0);
     }
 
+    int asked() {
+        return asked;
+    }
+
     int wrong() {
         return wrong;
     }

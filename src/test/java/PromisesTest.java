@@ -1,12 +1,9 @@
 /** Each promise of the document by itself: ordinary calls, the edges that it names, wrong inputs. */
-public final class PromisesTest {
-    private static final int NONE = TextMarks.NONE;
-    private static final int MIN = Integer.MIN_VALUE;
-    private static final int MAX = Integer.MAX_VALUE;
+public final class PromisesTest extends Asking {
     private static final int[] NO_NODES = {-1, 4, MIN, MAX};
-    private static final Due DUE = new Due("PromisesTest");
 
     public static void main(String[] args) {
+        begin("PromisesTest");
         aNewObject();
         insert();
         insertsAtOnce();
@@ -30,56 +27,11 @@ public final class PromisesTest {
         alikeByParts();
         total();
         fullOfRows();
-        DUE.end();
-    }
-
-    private static void is(String call, long got, long want) {
-        DUE.is(call, got, want);
-    }
-
-    private static void is(String call, boolean got, boolean want) {
-        DUE.is(call, got, want);
-    }
-
-    private static TextMarks written(String text) {
-        TextMarks x = new TextMarks();
-        write(x, 0, 0, text);
-        return x;
-    }
-
-    private static void write(TextMarks x, int node, int at, String text) {
-        for (int i = 0; i < text.length(); i++) {
-            x.insert(node, at + i, text.charAt(i));
-        }
-    }
-
-    private static void reads(TextMarks x, int node, String want) {
-        StringBuilder got = new StringBuilder();
-        int size = x.total(node, 0);
-        for (int i = 0; i < size; i++) {
-            got.appendCodePoint(x.sign(node, i));
-        }
-        is("the text of node " + node + ", \"" + got + "\", is \"" + want + "\"", got.toString().equals(want), true);
-    }
-
-    /** The values of a key, a digit for each sign. */
-    private static void wears(TextMarks x, int node, int key, String want) {
-        StringBuilder got = new StringBuilder();
-        int size = x.total(node, 0);
-        for (int i = 0; i < size; i++) {
-            got.append(x.styled(node, i, key));
-        }
-        is("key " + key + " at node " + node + ", " + got + ", is " + want, got.toString().equals(want), true);
-    }
-
-    private static void rowIs(TextMarks x, int row, int... want) {
-        for (int what = 0; what < want.length; what++) {
-            is("row(" + row + ", " + what + ")", x.row(row, what), want[what]);
-        }
+        end();
     }
 
     private static void aNewObject() {
-        DUE.part("promise 1");
+        part("promise 1");
         TextMarks x = new TextMarks();
         int[] totals = {0, 0, 0, 1, 0, 0, 0};
         for (int node = 0; node < 4; node++) {
@@ -97,7 +49,7 @@ public final class PromisesTest {
     }
 
     private static void insert() {
-        DUE.part("promise 2");
+        part("promise 2");
         TextMarks x = new TextMarks();
         is("insert(1, 0, 97)", x.insert(1, 0, 97), 1);
         is("insert(1, 1, 99)", x.insert(1, 1, 99), 2);
@@ -131,7 +83,7 @@ public final class PromisesTest {
     }
 
     private static void insertsAtOnce() {
-        DUE.part("promise 2, places");
+        part("promise 2, places");
         TextMarks x = written("ab");
         x.meet(1, 0);
         x.meet(2, 0);
@@ -159,7 +111,7 @@ public final class PromisesTest {
     }
 
     private static void insertsUnderOneAnother() {
-        DUE.part("promise 2, behind what is not seen");
+        part("promise 2, behind what is not seen");
         TextMarks x = written("abc");
         x.meet(1, 0);
         x.delete(0, 1);
@@ -180,7 +132,7 @@ public final class PromisesTest {
     }
 
     private static void delete() {
-        DUE.part("promise 3");
+        part("promise 3");
         TextMarks x = written("abc");
         x.meet(1, 0);
         is("delete(0, 1)", x.delete(0, 1), 4);
@@ -209,7 +161,7 @@ public final class PromisesTest {
     }
 
     private static void style() {
-        DUE.part("promise 4");
+        part("promise 4");
         TextMarks x = written("abcd");
         is("style(0, 1, 3, 0, 9)", x.style(0, 1, 3, 0, 9), 5);
         rowIs(x, 5, 2, 0, 5, 0, 9, 2, 4);
@@ -241,7 +193,7 @@ public final class PromisesTest {
     }
 
     private static void comment() {
-        DUE.part("promise 5");
+        part("promise 5");
         TextMarks x = written("abcd");
         is("comment(0, 1, 3)", x.comment(0, 1, 3), 5);
         rowIs(x, 5, 3, 0, 5, 0, 0, 2, 3);
@@ -259,7 +211,7 @@ public final class PromisesTest {
     }
 
     private static void block() {
-        DUE.part("promise 6");
+        part("promise 6");
         TextMarks x = written("a\n\nb");
         is("block(0, 0, 9)", x.block(0, 0, 9), 5);
         rowIs(x, 5, 4, 0, 5, 9, 0, 0, 0);
@@ -286,7 +238,7 @@ public final class PromisesTest {
     }
 
     private static void undo() {
-        DUE.part("promise 7");
+        part("promise 7");
         TextMarks x = written("a\nc");
         x.style(0, 0, 3, 2, 5);
         x.comment(0, 0, 2);
@@ -321,7 +273,7 @@ public final class PromisesTest {
     }
 
     private static void see() {
-        DUE.part("promise 8");
+        part("promise 8");
         TextMarks x = written("abc");
         x.style(0, 0, 1, 0, 3);
         x.style(0, 1, 3, 1, 4);
@@ -360,7 +312,7 @@ public final class PromisesTest {
     }
 
     private static void meet() {
-        DUE.part("promise 9");
+        part("promise 9");
         TextMarks x = written("abc");
         write(x, 1, 0, "xy");
         is("meet(2, 3)", x.meet(2, 3), 0);
@@ -384,7 +336,7 @@ public final class PromisesTest {
     }
 
     private static void signAndId() {
-        DUE.part("promises 10 and 11");
+        part("promises 10 and 11");
         TextMarks x = written("ac");
         x.insert(0, 1, 1114111);
         x.delete(0, 0);
@@ -404,7 +356,7 @@ public final class PromisesTest {
     }
 
     private static void unit() {
-        DUE.part("promise 12");
+        part("promise 12");
         TextMarks x = new TextMarks();
         int[] signs = {97, 65535, 65536, 128512, 1114111, 10};
         int[] units = {97, 65535, 55296, 56320, 55357, 56832, 56319, 57343, 10};
@@ -427,7 +379,7 @@ public final class PromisesTest {
     }
 
     private static void styled() {
-        DUE.part("promise 13");
+        part("promise 13");
         TextMarks x = written("abc");
         x.style(0, 0, 2, 0, 5);
         x.style(0, 0, 2, 1, 6);
@@ -463,7 +415,7 @@ public final class PromisesTest {
     }
 
     private static void stylesAtOnce() {
-        DUE.part("promise 13, the last one in order");
+        part("promise 13, the last one in order");
         TextMarks x = written("abcd");
         x.meet(1, 0);
         x.meet(2, 0);
@@ -491,7 +443,7 @@ public final class PromisesTest {
     }
 
     private static void run() {
-        DUE.part("promise 14");
+        part("promise 14");
         TextMarks x = written("abcdef");
         x.style(0, 1, 3, 0, 1);
         x.style(0, 2, 5, 3, 2);
@@ -522,7 +474,7 @@ public final class PromisesTest {
     }
 
     private static void lies() {
-        DUE.part("promise 15");
+        part("promise 15");
         TextMarks x = written("abcd");
         is("comment(0, 1, 3)", x.comment(0, 1, 3), 5);
         is("comment(0, 3, 4)", x.comment(0, 3, 4), 6);
@@ -561,13 +513,8 @@ public final class PromisesTest {
         }
     }
 
-    private static void lie(TextMarks x, int node, int comment, int from, int to) {
-        is("lies(" + node + ", " + comment + ", 0)", x.lies(node, comment, 0), from);
-        is("lies(" + node + ", " + comment + ", 1)", x.lies(node, comment, 1), to);
-    }
-
     private static void paragraph() {
-        DUE.part("promise 16");
+        part("promise 16");
         TextMarks x = written("\nab\n\nc\n");
         x.block(0, 0, 1);
         x.block(0, 1, 2);
@@ -610,7 +557,7 @@ public final class PromisesTest {
     }
 
     private static void row() {
-        DUE.part("promise 17");
+        part("promise 17");
         TextMarks x = written("ab\n");
         x.meet(3, 0);
         is("delete(3, 1)", x.delete(3, 1), 4);
@@ -639,7 +586,7 @@ public final class PromisesTest {
     }
 
     private static void alike() {
-        DUE.part("promise 18");
+        part("promise 18");
         TextMarks x = written("a");
         is("alike(0, 1)", x.alike(0, 1), false);
         is("alike(0, 0)", x.alike(0, 0), true);
@@ -660,7 +607,7 @@ public final class PromisesTest {
     }
 
     private static void alikeByParts() {
-        DUE.part("promise 18, each part");
+        part("promise 18, each part");
         for (int key = 0; key < 4; key++) {
             TextMarks x = written("ab\n");
             x.meet(1, 0);
@@ -711,22 +658,10 @@ public final class PromisesTest {
         y.insert(1, 1, 'a');
         lie(y, 1, 3, 2, 2);
         is("the comment lies elsewhere", y.alike(0, 1), false);
-        toElsewhere();
-    }
-
-    private static void toElsewhere() {
-        TextMarks x = written("aaa");
-        x.comment(0, 0, 2);
-        x.meet(1, 0);
-        x.delete(1, 1);
-        x.insert(1, 2, 'a');
-        lie(x, 0, 4, 0, 2);
-        lie(x, 1, 4, 0, 1);
-        is("only its TO lies elsewhere", x.alike(0, 1), false);
     }
 
     private static void total() {
-        DUE.part("promise 19");
+        part("promise 19");
         TextMarks x = written("ab\nc");
         x.insert(0, 0, 65536);
         x.delete(0, 1);
@@ -751,7 +686,7 @@ public final class PromisesTest {
     }
 
     private static void fullOfRows() {
-        DUE.part("250 rows");
+        part("250 rows");
         TextMarks x = new TextMarks();
         for (int i = 0; i < 249; i++) {
             x.insert(0, i, i == 100 ? 10 : 'a');
