@@ -1,3 +1,4 @@
+import java.lang.reflect.Method;
 import java.util.Arrays;
 
 /** A test for each sentence of the document that names a boundary case. */
@@ -77,6 +78,21 @@ abstract class Edges extends Asking {
             }
         }
         return state.toString();
+    }
+
+    /**
+     * Makes a row that no call of the face makes, by the method inside the class through which they
+     * all go: the document speaks of a few such rows.
+     */
+    static int plant(TextMarks x, int node, int sort, int detail, int value, int first, int second) {
+        try {
+            Method write = TextMarks.class.getDeclaredMethod("write", int.class, int.class, int.class, int.class,
+                    int.class, int.class);
+            write.setAccessible(true);
+            return (Integer) write.invoke(x, node, sort, detail, value, first, second);
+        } catch (ReflectiveOperationException changed) {
+            throw new IllegalStateException("the inside of the class is another one: plant() goes with it", changed);
+        }
     }
 
     /** Rows 1 .. count, signs that node 0 writes one behind the other. */

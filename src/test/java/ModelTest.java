@@ -139,7 +139,7 @@ public final class ModelTest {
         }
         Collections.shuffle(left, random);
         // Bounded by the calls an object has: needs go by small numbers, so few rounds are enough.
-        for (int call = 0; call < 400 && !left.isEmpty(); call++) {
+        for (int call = 0; call < 380 && !left.isEmpty(); call++) {
             int row = left.remove(0);
             if (!real.see(3, row)) {
                 left.add(row);

@@ -4,6 +4,7 @@ public final class TermsEdgesTest extends Edges {
         begin("TermsEdgesTest");
         edge("What it is", "at most 512 calls after it has been made", TermsEdgesTest::theLastCall);
         edge("What it is", "in whatever order they came, also when some are undone", TermsEdgesTest::anyOrderOfComing);
+        edge("What it is", "comments that stay where their text was", TermsEdgesTest::commentsStay);
         edge("The public face", "NONE = -1", TermsEdgesTest::noneIsBelowAllAnswers);
         rowsAndTimes();
         sorts();
@@ -17,6 +18,7 @@ public final class TermsEdgesTest extends Edges {
     private static void rowsAndTimes() {
         edge("Terms", "NODES 0 .. 3", TermsEdgesTest::nodes);
         edge("Terms", "a number (1, 2, .. as it was made, at most 250)", TermsEdgesTest::rowNumbers);
+        edge("Terms", "KNOWS some ROWS (those it made, and those it saw)", TermsEdgesTest::knownRows);
         edge("Terms", "has a TIME, 0 at first", TermsEdgesTest::timeAtFirst);
         edge("Terms", "a ROW that it makes gets 1 more than that, which is its TIME then", TermsEdgesTest::timeOfMade);
         edge("Terms", "its TIME becomes the ROW's, if that is greater", TermsEdgesTest::timeOfSeen);
@@ -54,7 +56,9 @@ public final class TermsEdgesTest extends Edges {
         edge("Terms", "from FROM on, it too, to TO, that too", TermsEdgesTest::endsThatDoNotGrow);
         edge("Terms", "of a KEY that GROWS up to TO, that not", TermsEdgesTest::endsThatGrow);
         edge("Terms", "(0: all)", TermsEdgesTest::styledToTheEnd);
-        edge("Terms", "If TO is ahead of FROM, none, or of a KEY that GROWS TO is FROM", TermsEdgesTest::nothingCovered);
+        edge("Terms", "If TO is ahead of FROM, none", TermsEdgesTest::toAheadOfFrom);
+        edge("Terms", "none, or of a KEY that GROWS TO is FROM", TermsEdgesTest::toIsFrom);
+        edge("Terms", "from FROM on .. to TO", "the least that a call can style", TermsEdgesTest::leastCovered);
         edge("Terms", "the last one in ORDER of those that COVER it", TermsEdgesTest::lastStyle);
         edge("Terms", "that COVER it; 0 without", TermsEdgesTest::withoutStyle);
         edge("Terms", "with the same values of all KEYS", TermsEdgesTest::runsByEachKey);
@@ -64,7 +68,8 @@ public final class TermsEdgesTest extends Edges {
     private static void commentsAndParagraphs() {
         edge("Terms", "lies FROM how many SEEN SIGNS are ahead of its FROM", TermsEdgesTest::commentFrom);
         edge("Terms", "TO how many are ahead of the PLACE behind its TO", TermsEdgesTest::commentTo);
-        edge("Terms", "if that is less, this is FROM", TermsEdgesTest::emptiedComment);
+        edge("Terms", "if that is less, this is FROM", TermsEdgesTest::commentToIsLess);
+        edge("Terms", "if that is less, this is FROM", "it is the same", TermsEdgesTest::emptiedComment);
         edge("Terms", "the SEEN SIGNS 10 part them (none of them is of one)", TermsEdgesTest::emptyParagraphs);
         edge("Terms", "there is one more than these", TermsEdgesTest::oneParagraphMore);
         edge("Terms", "the GOOD BLOCK for 0 that is the last one in ORDER", TermsEdgesTest::lastBlock);
@@ -106,6 +111,24 @@ public final class TermsEdgesTest extends Edges {
         is("time", x.total(3, 6), x.total(2, 6));
     }
 
+    private static void commentsStay() {
+        TextMarks x = written("abcd");
+        is("comment", x.comment(0, 1, 3), 5);
+        x.delete(0, 2);
+        x.delete(0, 1);
+        reads(x, 0, "ad");
+        lie(x, 0, 5, 1, 1);
+        is("a sign where it was, behind \"a\"", x.insert(0, 1, 'x'), 8);
+        lie(x, 0, 5, 2, 2);
+        x.delete(0, 1);
+        x.delete(0, 0);
+        x.delete(0, 0);
+        reads(x, 0, "");
+        lie(x, 0, 5, 0, 0);
+        is("undo of the delete of \"b\"", x.undo(0, 7), 12);
+        lie(x, 0, 5, 0, 1);
+    }
+
     private static void noneIsBelowAllAnswers() {
         is("NONE", TextMarks.NONE, -1);
         is("an answer without a place", new TextMarks().sign(0, 0), -1);
@@ -138,6 +161,23 @@ public final class TermsEdgesTest extends Edges {
         is("row 1", x.row(1, 3), 'a');
         is("row 250", x.row(250, 3), 'c');
         is("row 251", x.row(251, 0), NONE);
+    }
+
+    private static void knownRows() {
+        TextMarks x = written("ab");
+        is("those it made", x.total(0, 5), 2);
+        is("another one does not", x.total(1, 5), 0);
+        is("refused, so not seen", x.see(1, 2), false);
+        is("still none", x.total(1, 5), 0);
+        is("seen", x.see(1, 1), true);
+        is("the one it saw", x.total(1, 5), 1);
+        is("made", x.insert(1, 1, 'c'), 3);
+        is("the one it made, too", x.total(1, 5), 2);
+        reads(x, 1, "ac");
+        reads(x, 0, "ab");
+        is("met", x.meet(0, 1), 1);
+        is("those it saw by a meeting, too", x.total(0, 5), 3);
+        is("the one that was met knows no more", x.total(1, 5), 2);
     }
 
     private static void timeAtFirst() {
@@ -477,11 +517,36 @@ public final class TermsEdgesTest extends Edges {
         wears(x, 0, 3, "00");
     }
 
-    /**
-     * No call makes a row whose TO is ahead of its FROM, or whose growing end is where it begins: the
-     * least that a style can cover is one place, and none that is seen once that one is deleted.
-     */
-    private static void nothingCovered() {
+    /** No call makes such a row, so it is planted. */
+    private static void toAheadOfFrom() {
+        for (int key = 0; key <= 3; key++) {
+            TextMarks x = written("abcd");
+            is("planted", plant(x, 0, 2, key, 5, 3, 2), 5);
+            rowIs(x, 5, 2, 0, 5, key, 5, 3, 2);
+            wears(x, 0, key, "0000");
+            is("planted", plant(x, 0, 2, key, 6, 4, 1), 6);
+            wears(x, 0, key, "0000");
+            x.delete(0, 1);
+            x.delete(0, 1);
+            wears(x, 0, key, "00");
+            is("runs", x.total(0, 2), 1);
+        }
+    }
+
+    /** No call makes such a row of a key that grows, so it is planted; of the others it is one of a single sign. */
+    private static void toIsFrom() {
+        for (int key = 0; key <= 3; key++) {
+            TextMarks x = written("abc");
+            is("planted", plant(x, 0, 2, key, 5, 2, 2), 4);
+            wears(x, 0, key, key < 2 ? "000" : "050");
+            x.insert(0, 2, 'x');
+            x.insert(0, 1, 'y');
+            reads(x, 0, "aybxc");
+            wears(x, 0, key, key < 2 ? "00000" : "00500");
+        }
+    }
+
+    private static void leastCovered() {
         for (int key = 0; key <= 3; key++) {
             TextMarks x = written("abc");
             int style = x.style(0, 1, 2, key, 5);
@@ -594,7 +659,21 @@ public final class TermsEdgesTest extends Edges {
         is("TO itself is deleted", x.lies(0, 4, 1), 2);
     }
 
-    /** By the calls of the face TO is never less than FROM: the nearest is a comment whose text is gone. */
+    /** No call makes a comment whose TO is ahead of its FROM, so it is planted. */
+    private static void commentToIsLess() {
+        TextMarks x = written("abcd");
+        is("planted", plant(x, 0, 3, 0, 0, 4, 1), 5);
+        lie(x, 0, 5, 3, 3);
+        is("planted", plant(x, 0, 3, 0, 0, 3, 2), 6);
+        lie(x, 0, 6, 2, 2);
+        x.delete(0, 0);
+        lie(x, 0, 5, 2, 2);
+        x.meet(1, 0);
+        is("alike", x.alike(0, 1), true);
+        lie(x, 1, 5, 2, 2);
+    }
+
+    /** The nearest that a call can make is a comment whose text is gone. */
     private static void emptiedComment() {
         TextMarks x = written("abcd");
         is("comment", x.comment(0, 1, 3), 5);
